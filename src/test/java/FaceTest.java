@@ -76,7 +76,8 @@ public final class FaceTest {
 
     private static void privateNames(Class<?> c, Set<String> names) {
         for (Method m : c.getDeclaredMethods()) {
-            Check.holds(m + " has a name of its own", Modifier.isPublic(m.getModifiers()) || !names.contains(m.getName()));
+            boolean own = Modifier.isPublic(m.getModifiers()) || !names.contains(m.getName());
+            Check.holds(m + " has a name of its own", own);
         }
     }
 
@@ -89,8 +90,9 @@ public final class FaceTest {
 
     private static void fields(Class<?> c) {
         for (Field f : c.getDeclaredFields()) {
-            Check.holds(f + " is private", Modifier.isPrivate(f.getModifiers()));
-            Check.holds(f + ": static is final", !Modifier.isStatic(f.getModifiers()) || Modifier.isFinal(f.getModifiers()));
+            int m = f.getModifiers();
+            Check.holds(f + " is private", Modifier.isPrivate(m));
+            Check.holds(f + ": static is final", !Modifier.isStatic(m) || Modifier.isFinal(m));
         }
     }
 }

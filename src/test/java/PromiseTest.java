@@ -12,6 +12,7 @@ public final class PromiseTest {
 
     public static void main(String[] args) {
         promise1NewObject();
+        promise1FirstPrice();
         promise2SetRooms();
         promise2Price();
         promise3BuyLinen();
@@ -34,6 +35,7 @@ public final class PromiseTest {
         promise12Free();
         promise13And14Taken();
         promise15Extra();
+        promise15Fourth();
         promise16And17Linen();
         promise17Broken();
         promise18Sleeps();
@@ -91,6 +93,33 @@ public final class PromiseTest {
         }
         Check.refuses("1 no booking", INDEX, () -> x.sleeps(0));
         Check.due("1 laundry works", 0, () -> x.setBroken(false) ? 1 : 0);
+    }
+
+    /** A kind that was never set takes bookings by the extra alone, at the price of the beginning. */
+    private static void promise1FirstPrice() {
+        for (int i = 0; i < 4; i++) {
+            int inn = i;
+            for (int k = 0; k < 2; k++) {
+                int kind = k;
+                HostLeague x = new HostLeague();
+                x.setRooms(inn, 1 - kind, 4, 99);
+                for (int guest = 0; guest < 4; guest++) {
+                    x.book(guest, inn, 1 - kind, 0);
+                }
+                x.night();
+                Check.due("1 booked by the extra", 4, () -> x.book(0, inn, kind, 1));
+                Check.refuses("1 the extra is one", STATE, () -> x.book(0, inn, kind, 1));
+                int other = (inn + 2) % 4;
+                x.setRooms(other, kind, 1, 35);
+                x.buyLinen(other, 1);
+                Check.due("1 sent on", other, () -> x.come(4));
+                Check.due("1 the first price", 10, () -> x.purse(inn));
+                Check.due("1 what that costs", 35, () -> x.owes(inn, other));
+                Check.due("1 taken there", 1, () -> x.taken(other, kind));
+                x.night();
+                Check.due("1 taken until the night ends", 0, () -> x.taken(other, kind));
+            }
+        }
     }
 
     private static void promise2SetRooms() {
@@ -609,6 +638,18 @@ public final class PromiseTest {
         Check.due("15 three of the last 4 nights", 0, () -> x.extra(0));
         for (int inn : NO_INNS) {
             Check.refuses("15 inn " + inn, INDEX, () -> x.extra(inn));
+        }
+    }
+
+    private static void promise15Fourth() {
+        for (int m = 0; m < 10; m++) {
+            int missed = m;
+            HostLeague x = withRooms(10, 10);
+            for (int guest = 0; guest < missed; guest++) {
+                x.book(guest, 0, 0, 0);
+            }
+            Check.due("8 " + missed + " did not come", missed, () -> x.night());
+            Check.due("15 a fourth of " + missed, missed / 4, () -> x.extra(0));
         }
     }
 
