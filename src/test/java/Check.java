@@ -5,10 +5,20 @@ final class Check {
         long answer();
     }
 
+    static final Class<IndexOutOfBoundsException> INDEX = IndexOutOfBoundsException.class;
+    static final Class<IllegalArgumentException> ARGUMENT = IllegalArgumentException.class;
+    static final Class<IllegalStateException> STATE = IllegalStateException.class;
+
     private static int checks = 0;
     private static int wrong = 0;
+    private static String about = "";
 
     private Check() {
+    }
+
+    /** What the checks that follow are about; stands ahead of each that is wrong. */
+    static void about(String what) {
+        about = what.isEmpty() ? "" : what + ": ";
     }
 
     static void due(String what, long want, Call call) {
@@ -23,7 +33,7 @@ final class Check {
         checks++;
         if (!want.equals(got)) {
             wrong++;
-            System.out.println("WRONG " + what + ": answered " + got + ", due is " + want);
+            System.out.println("WRONG " + about + what + ": answered " + got + ", due is " + want);
         }
     }
 

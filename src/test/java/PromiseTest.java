@@ -1,8 +1,5 @@
 /** One method for each promise of the document: ordinary inputs, named edges, wrong inputs. */
 public final class PromiseTest {
-    private static final Class<IndexOutOfBoundsException> INDEX = IndexOutOfBoundsException.class;
-    private static final Class<IllegalArgumentException> ARGUMENT = IllegalArgumentException.class;
-    private static final Class<IllegalStateException> STATE = IllegalStateException.class;
     private static final int[] NO_INNS = {-1, 4, Integer.MIN_VALUE, Integer.MAX_VALUE};
     private static final int[] NO_KINDS = {-1, 2, Integer.MIN_VALUE, Integer.MAX_VALUE};
     private static final int[] NO_GUESTS = {-1, 10, Integer.MIN_VALUE, Integer.MAX_VALUE};
@@ -45,22 +42,6 @@ public final class PromiseTest {
         Check.finish("PromiseTest");
     }
 
-    /** An object with four inns that each have rooms of both kinds, and no linen. */
-    private static HostLeague withRooms(int rooms, int price) {
-        HostLeague x = new HostLeague();
-        for (int inn = 0; inn < 4; inn++) {
-            x.setRooms(inn, 0, rooms, price);
-            x.setRooms(inn, 1, rooms, price);
-        }
-        return x;
-    }
-
-    private static void nights(HostLeague x, int count) {
-        for (int n = 0; n < count; n++) {
-            x.night();
-        }
-    }
-
     private static void unchanged(String what, String before, HostLeague x) {
         Check.same(what + " changes nothing", before, State.of(x));
     }
@@ -91,7 +72,7 @@ public final class PromiseTest {
             int guest = g;
             Check.due("1 points", 0, () -> x.points(guest));
         }
-        Check.refuses("1 no booking", INDEX, () -> x.sleeps(0));
+        Check.refuses("1 no booking", Check.INDEX, () -> x.sleeps(0));
         Check.due("1 laundry works", 0, () -> x.setBroken(false) ? 1 : 0);
     }
 
@@ -108,7 +89,7 @@ public final class PromiseTest {
                 }
                 x.night();
                 Check.due("1 booked by the extra", 4, () -> x.book(0, inn, kind, 1));
-                Check.refuses("1 the extra is one", STATE, () -> x.book(0, inn, kind, 1));
+                Check.refuses("1 the extra is one", Check.STATE, () -> x.book(0, inn, kind, 1));
                 int other = (inn + 2) % 4;
                 x.setRooms(other, kind, 1, 35);
                 x.buyLinen(other, 1);
@@ -132,18 +113,18 @@ public final class PromiseTest {
         Check.due("2 free", 4, () -> x.free(3, 1));
         String before = State.of(x);
         for (int inn : NO_INNS) {
-            Check.refuses("2 inn " + inn, INDEX, () -> x.setRooms(inn, 0, 1, 1));
-            Check.refuses("2 inn first " + inn, INDEX, () -> x.setRooms(inn, 0, 11, 0));
+            Check.refuses("2 inn " + inn, Check.INDEX, () -> x.setRooms(inn, 0, 1, 1));
+            Check.refuses("2 inn first " + inn, Check.INDEX, () -> x.setRooms(inn, 0, 11, 0));
         }
         for (int kind : NO_KINDS) {
-            Check.refuses("2 kind " + kind, INDEX, () -> x.setRooms(0, kind, 1, 1));
-            Check.refuses("2 kind first " + kind, INDEX, () -> x.setRooms(0, kind, -1, 101));
+            Check.refuses("2 kind " + kind, Check.INDEX, () -> x.setRooms(0, kind, 1, 1));
+            Check.refuses("2 kind first " + kind, Check.INDEX, () -> x.setRooms(0, kind, -1, 101));
         }
         for (int rooms : new int[] {-1, 11, Integer.MIN_VALUE, Integer.MAX_VALUE}) {
-            Check.refuses("2 rooms " + rooms, ARGUMENT, () -> x.setRooms(3, 1, rooms, 1));
+            Check.refuses("2 rooms " + rooms, Check.ARGUMENT, () -> x.setRooms(3, 1, rooms, 1));
         }
         for (int price : new int[] {0, 101, -1, Integer.MIN_VALUE, Integer.MAX_VALUE}) {
-            Check.refuses("2 price " + price, ARGUMENT, () -> x.setRooms(3, 1, 1, price));
+            Check.refuses("2 price " + price, Check.ARGUMENT, () -> x.setRooms(3, 1, 1, price));
         }
         unchanged("2 refused", before, x);
         Check.due("2 rooms kept", 4, () -> x.setRooms(3, 1, 0, 7));
@@ -153,8 +134,8 @@ public final class PromiseTest {
         HostLeague x = new HostLeague();
         x.setRooms(0, 0, 1, 42);
         x.buyLinen(0, 1);
-        Check.refuses("2 price too high", ARGUMENT, () -> x.setRooms(0, 0, 1, 101));
-        Check.refuses("2 rooms too many", ARGUMENT, () -> x.setRooms(0, 0, 11, 99));
+        Check.refuses("2 price too high", Check.ARGUMENT, () -> x.setRooms(0, 0, 1, 101));
+        Check.refuses("2 rooms too many", Check.ARGUMENT, () -> x.setRooms(0, 0, 11, 99));
         x.book(0, 0, 0, 0);
         x.come(0);
         Check.due("2 a refused price is not kept", 42, () -> x.purse(0));
@@ -169,11 +150,11 @@ public final class PromiseTest {
         Check.due("3 costs nothing", 0, () -> x.purse(2));
         String before = State.of(x);
         for (int inn : NO_INNS) {
-            Check.refuses("3 inn " + inn, INDEX, () -> x.buyLinen(inn, 1));
-            Check.refuses("3 inn first " + inn, INDEX, () -> x.buyLinen(inn, 0));
+            Check.refuses("3 inn " + inn, Check.INDEX, () -> x.buyLinen(inn, 1));
+            Check.refuses("3 inn first " + inn, Check.INDEX, () -> x.buyLinen(inn, 0));
         }
         for (int sets : new int[] {0, 21, -1, Integer.MIN_VALUE, Integer.MAX_VALUE}) {
-            Check.refuses("3 sets " + sets, ARGUMENT, () -> x.buyLinen(2, sets));
+            Check.refuses("3 sets " + sets, Check.ARGUMENT, () -> x.buyLinen(2, sets));
         }
         unchanged("3 refused", before, x);
     }
@@ -192,53 +173,53 @@ public final class PromiseTest {
     private static void promise5Book() {
         HostLeague x = new HostLeague();
         x.setRooms(1, 1, 2, 10);
-        nights(x, 3);
+        Scenes.nights(x, 3);
         Check.due("5 tonight", 0, () -> x.book(9, 1, 1, 3));
         Check.due("5 ten ahead", 1, () -> x.book(0, 1, 1, 13));
         Check.due("5 second of a night", 2, () -> x.book(9, 1, 1, 3));
         String before = State.of(x);
         for (int guest : NO_GUESTS) {
-            Check.refuses("5 guest " + guest, INDEX, () -> x.book(guest, 1, 1, 4));
-            Check.refuses("5 guest first " + guest, INDEX, () -> x.book(guest, 1, 0, 99));
+            Check.refuses("5 guest " + guest, Check.INDEX, () -> x.book(guest, 1, 1, 4));
+            Check.refuses("5 guest first " + guest, Check.INDEX, () -> x.book(guest, 1, 0, 99));
         }
         for (int inn : NO_INNS) {
-            Check.refuses("5 inn " + inn, INDEX, () -> x.book(0, inn, 1, 4));
-            Check.refuses("5 inn first " + inn, INDEX, () -> x.book(0, inn, 1, 2));
+            Check.refuses("5 inn " + inn, Check.INDEX, () -> x.book(0, inn, 1, 4));
+            Check.refuses("5 inn first " + inn, Check.INDEX, () -> x.book(0, inn, 1, 2));
         }
         for (int kind : NO_KINDS) {
-            Check.refuses("5 kind " + kind, INDEX, () -> x.book(0, 1, kind, 4));
-            Check.refuses("5 kind first " + kind, INDEX, () -> x.book(0, 1, kind, 14));
+            Check.refuses("5 kind " + kind, Check.INDEX, () -> x.book(0, 1, kind, 4));
+            Check.refuses("5 kind first " + kind, Check.INDEX, () -> x.book(0, 1, kind, 14));
         }
         for (int night : new int[] {2, 14, -1, Integer.MIN_VALUE, Integer.MAX_VALUE}) {
-            Check.refuses("5 night " + night, ARGUMENT, () -> x.book(0, 1, 1, night));
-            Check.refuses("5 night before fullness " + night, ARGUMENT, () -> x.book(0, 0, 0, night));
+            Check.refuses("5 night " + night, Check.ARGUMENT, () -> x.book(0, 1, 1, night));
+            Check.refuses("5 night before fullness " + night, Check.ARGUMENT, () -> x.book(0, 0, 0, night));
         }
-        Check.refuses("5 third of a night", STATE, () -> x.book(5, 1, 1, 3));
-        Check.refuses("5 no rooms of the kind", STATE, () -> x.book(5, 1, 0, 3));
-        Check.refuses("5 no rooms at the inn", STATE, () -> x.book(5, 0, 1, 3));
+        Check.refuses("5 third of a night", Check.STATE, () -> x.book(5, 1, 1, 3));
+        Check.refuses("5 no rooms of the kind", Check.STATE, () -> x.book(5, 1, 0, 3));
+        Check.refuses("5 no rooms at the inn", Check.STATE, () -> x.book(5, 0, 1, 3));
         unchanged("5 refused", before, x);
         Check.due("5 another night", 3, () -> x.book(5, 1, 1, 4));
         Check.due("5 after a refusal", 4, () -> x.book(5, 1, 1, 13));
         x.buyLinen(1, 5);
         x.come(0);
-        Check.refuses("5 who came counts on", STATE, () -> x.book(5, 1, 1, 3));
+        Check.refuses("5 who came counts on", Check.STATE, () -> x.book(5, 1, 1, 3));
         x.setRooms(1, 1, 1, 10);
-        Check.refuses("5 rooms of now", STATE, () -> x.book(5, 1, 1, 4));
+        Check.refuses("5 rooms of now", Check.STATE, () -> x.book(5, 1, 1, 4));
     }
 
     private static void promise5EightyBookings() {
-        HostLeague x = withRooms(10, 10);
+        HostLeague x = Scenes.withRooms(10, 10);
         for (int b = 0; b < 80; b++) {
             int booking = b;
             Check.due("5 booking " + b, b, () -> x.book(booking % 10, booking / 20, booking / 10 % 2, 0));
         }
         Check.due("5 eighty", 80, () -> x.bookings());
-        Check.refuses("5 the 81st", STATE, () -> x.book(0, 0, 0, 1));
-        Check.refuses("5 the 81st at a wrong night", ARGUMENT, () -> x.book(0, 0, 0, 11));
-        Check.refuses("5 the 81st by nobody", INDEX, () -> x.book(10, 0, 0, 0));
+        Check.refuses("5 the 81st", Check.STATE, () -> x.book(0, 0, 0, 1));
+        Check.refuses("5 the 81st at a wrong night", Check.ARGUMENT, () -> x.book(0, 0, 0, 11));
+        Check.refuses("5 the 81st by nobody", Check.INDEX, () -> x.book(10, 0, 0, 0));
         Check.due("5 eighty still", 80, () -> x.bookings());
         Check.due("5 no guest has come by the last", -1, () -> x.sleeps(79));
-        Check.refuses("5 no booking 80", INDEX, () -> x.come(80));
+        Check.refuses("5 no booking 80", Check.INDEX, () -> x.come(80));
         for (int n = 0; n < 4; n++) {
             x.buyLinen(n, 20);
         }
@@ -261,15 +242,15 @@ public final class PromiseTest {
         x.setRooms(0, 0, 1, 10);
         Check.due("5 a room", 4, () -> x.book(0, 0, 0, 1));
         Check.due("5 an extra", 5, () -> x.book(1, 0, 0, 1));
-        Check.refuses("5 no more", STATE, () -> x.book(2, 0, 0, 1));
+        Check.refuses("5 no more", Check.STATE, () -> x.book(2, 0, 0, 1));
         Check.due("5 an extra of the inn, of either kind", 6, () -> x.book(2, 0, 1, 1));
-        Check.refuses("5 no more of the other kind", STATE, () -> x.book(3, 0, 1, 1));
-        Check.refuses("5 not at another inn", STATE, () -> x.book(3, 1, 0, 1));
+        Check.refuses("5 no more of the other kind", Check.STATE, () -> x.book(3, 0, 1, 1));
+        Check.refuses("5 not at another inn", Check.STATE, () -> x.book(3, 1, 0, 1));
         Check.due("5 an extra for later nights", 7, () -> x.book(3, 0, 1, 11));
     }
 
     private static void promise6ComeRefused() {
-        HostLeague x = withRooms(2, 10);
+        HostLeague x = Scenes.withRooms(2, 10);
         x.buyLinen(0, 5);
         x.book(0, 0, 0, 0);
         x.book(1, 0, 0, 1);
@@ -277,14 +258,14 @@ public final class PromiseTest {
         Check.due("6 comes", 0, () -> x.come(0));
         String before = State.of(x);
         for (int booking : new int[] {-1, 3, 80, Integer.MIN_VALUE, Integer.MAX_VALUE}) {
-            Check.refuses("6 booking " + booking, INDEX, () -> x.come(booking));
+            Check.refuses("6 booking " + booking, Check.INDEX, () -> x.come(booking));
         }
-        Check.refuses("6 twice", STATE, () -> x.come(0));
-        Check.refuses("6 too early", STATE, () -> x.come(1));
+        Check.refuses("6 twice", Check.STATE, () -> x.come(0));
+        Check.refuses("6 too early", Check.STATE, () -> x.come(1));
         unchanged("6 refused", before, x);
         x.night();
-        Check.refuses("6 too late", STATE, () -> x.come(2));
-        Check.refuses("6 came by it, and too late", STATE, () -> x.come(0));
+        Check.refuses("6 too late", Check.STATE, () -> x.come(2));
+        Check.refuses("6 came by it, and too late", Check.STATE, () -> x.come(0));
         Check.due("6 on its night", 0, () -> x.come(1));
 
         HostLeague y = new HostLeague();
@@ -292,7 +273,7 @@ public final class PromiseTest {
         y.book(0, 0, 0, 0);
         Check.due("6 nowhere without linen", -1, () -> y.come(0));
         y.buyLinen(0, 1);
-        Check.refuses("6 who sleeps nowhere has come", STATE, () -> y.come(0));
+        Check.refuses("6 who sleeps nowhere has come", Check.STATE, () -> y.come(0));
         Check.due("6 who sleeps nowhere has not failed to come", 0, () -> y.night());
     }
 
@@ -324,7 +305,7 @@ public final class PromiseTest {
     }
 
     private static void promise6Linen() {
-        HostLeague x = withRooms(5, 1);
+        HostLeague x = Scenes.withRooms(5, 1);
         for (int guest = 0; guest < 5; guest++) {
             x.book(guest, 0, 0, 0);
         }
@@ -387,7 +368,7 @@ public final class PromiseTest {
     }
 
     private static void promise6PricesOfNow() {
-        HostLeague x = withRooms(1, 10);
+        HostLeague x = Scenes.withRooms(1, 10);
         x.buyLinen(0, 5);
         x.book(0, 0, 0, 0);
         x.setRooms(0, 0, 1, 55);
@@ -403,11 +384,11 @@ public final class PromiseTest {
         y.book(0, 2, 0, 0);
         y.come(0);
         Check.due("6 no point for 9 coins", 0, () -> y.points(0));
-        Check.refuses("7 no point", STATE, () -> y.burn(0, 2, 1));
+        Check.refuses("7 no point", Check.STATE, () -> y.burn(0, 2, 1));
     }
 
     private static void promise7Burn() {
-        HostLeague x = withRooms(10, 100);
+        HostLeague x = Scenes.withRooms(10, 100);
         x.buyLinen(1, 20);
         for (int n = 0; n < 10; n++) {
             x.book(3, 1, 0, 0);
@@ -418,22 +399,22 @@ public final class PromiseTest {
         Check.due("7 a hundred and ten", 110, () -> x.points(3));
         String before = State.of(x);
         for (int guest : NO_GUESTS) {
-            Check.refuses("7 guest " + guest, INDEX, () -> x.burn(guest, 0, 1));
-            Check.refuses("7 guest first " + guest, INDEX, () -> x.burn(guest, 0, 0));
+            Check.refuses("7 guest " + guest, Check.INDEX, () -> x.burn(guest, 0, 1));
+            Check.refuses("7 guest first " + guest, Check.INDEX, () -> x.burn(guest, 0, 0));
         }
         for (int inn : NO_INNS) {
-            Check.refuses("7 inn " + inn, INDEX, () -> x.burn(3, inn, 1));
-            Check.refuses("7 inn first " + inn, INDEX, () -> x.burn(3, inn, 101));
+            Check.refuses("7 inn " + inn, Check.INDEX, () -> x.burn(3, inn, 1));
+            Check.refuses("7 inn first " + inn, Check.INDEX, () -> x.burn(3, inn, 101));
         }
         for (int points : new int[] {0, 101, -1, Integer.MIN_VALUE, Integer.MAX_VALUE}) {
-            Check.refuses("7 points " + points, ARGUMENT, () -> x.burn(3, 0, points));
-            Check.refuses("7 points first " + points, ARGUMENT, () -> x.burn(4, 0, points));
+            Check.refuses("7 points " + points, Check.ARGUMENT, () -> x.burn(3, 0, points));
+            Check.refuses("7 points first " + points, Check.ARGUMENT, () -> x.burn(4, 0, points));
         }
-        Check.refuses("7 another guest", STATE, () -> x.burn(4, 0, 1));
+        Check.refuses("7 another guest", Check.STATE, () -> x.burn(4, 0, 1));
         unchanged("7 refused", before, x);
         Check.due("7 a hundred", 10, () -> x.burn(3, 0, 100));
         Check.due("7 a coin a point", 100, () -> x.owes(1, 0));
-        Check.refuses("7 one too many", STATE, () -> x.burn(3, 0, 11));
+        Check.refuses("7 one too many", Check.STATE, () -> x.burn(3, 0, 11));
         Check.due("7 at the inn itself", 9, () -> x.burn(3, 1, 1));
         Check.due("7 no debt to itself", 0, () -> x.owes(1, 1));
         Check.due("7 debt as before", 100, () -> x.owes(1, 0));
@@ -445,7 +426,7 @@ public final class PromiseTest {
 
     /** Earliest is what was earned first, not what was booked first. */
     private static void promise7Earliest() {
-        HostLeague x = withRooms(3, 30);
+        HostLeague x = Scenes.withRooms(3, 30);
         for (int inn = 0; inn < 4; inn++) {
             x.buyLinen(inn, 5);
         }
@@ -472,7 +453,7 @@ public final class PromiseTest {
     }
 
     private static void promise8Night() {
-        HostLeague x = withRooms(5, 10);
+        HostLeague x = Scenes.withRooms(5, 10);
         x.buyLinen(0, 5);
         x.book(0, 0, 0, 0);
         x.book(1, 1, 1, 0);
@@ -490,19 +471,19 @@ public final class PromiseTest {
     private static void promise8Night300() {
         HostLeague x = new HostLeague();
         x.setRooms(0, 0, 1, 10);
-        nights(x, 300);
+        Scenes.nights(x, 300);
         Check.due("8 night 300", 300, () -> x.today());
         x.book(0, 0, 0, 300);
         Check.due("5 beyond night 300", 1, () -> x.book(0, 0, 0, 310));
         x.buyLinen(0, 1);
         Check.due("6 in night 300", 0, () -> x.come(0));
         String before = State.of(x);
-        Check.refuses("8 ends no more", STATE, () -> x.night());
+        Check.refuses("8 ends no more", Check.STATE, () -> x.night());
         unchanged("8 refused", before, x);
     }
 
     private static void promise9Settle() {
-        HostLeague x = withRooms(3, 20);
+        HostLeague x = Scenes.withRooms(3, 20);
         Check.due("9 nothing", 0, () -> x.settle());
         x.buyLinen(0, 20);
         x.buyLinen(1, 20);
@@ -543,18 +524,18 @@ public final class PromiseTest {
     }
 
     private static void promise11Bookings() {
-        HostLeague x = withRooms(2, 10);
+        HostLeague x = Scenes.withRooms(2, 10);
         x.book(0, 0, 0, 5);
         Check.due("11 one", 1, () -> x.bookings());
         x.book(0, 0, 0, 5);
-        Check.refuses("11 refused", STATE, () -> x.book(0, 0, 0, 5));
+        Check.refuses("11 refused", Check.STATE, () -> x.book(0, 0, 0, 5));
         Check.due("11 two", 2, () -> x.bookings());
-        nights(x, 6);
+        Scenes.nights(x, 6);
         Check.due("11 what is over counts on", 2, () -> x.bookings());
     }
 
     private static void promise12Free() {
-        HostLeague x = withRooms(3, 10);
+        HostLeague x = Scenes.withRooms(3, 10);
         x.buyLinen(1, 9);
         x.book(0, 1, 0, 0);
         x.book(1, 1, 0, 0);
@@ -571,19 +552,19 @@ public final class PromiseTest {
         x.night();
         Check.due("12 a new night", 1, () -> x.free(1, 0));
         for (int inn : NO_INNS) {
-            Check.refuses("12 inn " + inn, INDEX, () -> x.free(inn, 0));
-            Check.refuses("13 inn " + inn, INDEX, () -> x.taken(inn, 0));
-            Check.refuses("14 inn " + inn, INDEX, () -> x.takenByBookings(inn, 0));
+            Check.refuses("12 inn " + inn, Check.INDEX, () -> x.free(inn, 0));
+            Check.refuses("13 inn " + inn, Check.INDEX, () -> x.taken(inn, 0));
+            Check.refuses("14 inn " + inn, Check.INDEX, () -> x.takenByBookings(inn, 0));
         }
         for (int kind : NO_KINDS) {
-            Check.refuses("12 kind " + kind, INDEX, () -> x.free(0, kind));
-            Check.refuses("13 kind " + kind, INDEX, () -> x.taken(0, kind));
-            Check.refuses("14 kind " + kind, INDEX, () -> x.takenByBookings(0, kind));
+            Check.refuses("12 kind " + kind, Check.INDEX, () -> x.free(0, kind));
+            Check.refuses("13 kind " + kind, Check.INDEX, () -> x.taken(0, kind));
+            Check.refuses("14 kind " + kind, Check.INDEX, () -> x.takenByBookings(0, kind));
         }
     }
 
     private static void promise13And14Taken() {
-        HostLeague x = withRooms(3, 10);
+        HostLeague x = Scenes.withRooms(3, 10);
         x.buyLinen(2, 9);
         x.book(0, 2, 1, 0);
         x.book(1, 2, 1, 0);
@@ -614,7 +595,7 @@ public final class PromiseTest {
     }
 
     private static void promise15Extra() {
-        HostLeague x = withRooms(10, 10);
+        HostLeague x = Scenes.withRooms(10, 10);
         x.buyLinen(0, 20);
         for (int n = 0; n < 7; n++) {
             x.book(n, 0, n % 2, 0);
@@ -632,19 +613,19 @@ public final class PromiseTest {
         x.come(11);
         x.night();
         Check.due("15 nine", 2, () -> x.extra(0));
-        nights(x, 2);
+        Scenes.nights(x, 2);
         Check.due("15 the last 4 nights", 2, () -> x.extra(0));
         x.night();
         Check.due("15 three of the last 4 nights", 0, () -> x.extra(0));
         for (int inn : NO_INNS) {
-            Check.refuses("15 inn " + inn, INDEX, () -> x.extra(inn));
+            Check.refuses("15 inn " + inn, Check.INDEX, () -> x.extra(inn));
         }
     }
 
     private static void promise15Fourth() {
         for (int m = 0; m < 10; m++) {
             int missed = m;
-            HostLeague x = withRooms(10, 10);
+            HostLeague x = Scenes.withRooms(10, 10);
             for (int guest = 0; guest < missed; guest++) {
                 x.book(guest, 0, 0, 0);
             }
@@ -654,7 +635,7 @@ public final class PromiseTest {
     }
 
     private static void promise16And17Linen() {
-        HostLeague x = withRooms(5, 10);
+        HostLeague x = Scenes.withRooms(5, 10);
         x.buyLinen(0, 2);
         x.buyLinen(1, 1);
         x.book(0, 0, 0, 0);
@@ -676,13 +657,13 @@ public final class PromiseTest {
         linen(x, 0, 3, 0);
         linen(x, 1, 0, 0);
         for (int inn : NO_INNS) {
-            Check.refuses("16 inn " + inn, INDEX, () -> x.clean(inn));
-            Check.refuses("17 inn " + inn, INDEX, () -> x.away(inn));
+            Check.refuses("16 inn " + inn, Check.INDEX, () -> x.clean(inn));
+            Check.refuses("17 inn " + inn, Check.INDEX, () -> x.away(inn));
         }
     }
 
     private static void promise17Broken() {
-        HostLeague x = withRooms(5, 10);
+        HostLeague x = Scenes.withRooms(5, 10);
         x.buyLinen(0, 5);
         for (int n = 0; n < 4; n++) {
             x.book(n, 0, 0, n);
@@ -700,7 +681,7 @@ public final class PromiseTest {
         x.setBroken(true);
         x.night();
         linen(x, 0, 3, 2);
-        nights(x, 3);
+        Scenes.nights(x, 3);
         linen(x, 0, 3, 2);
         x.setBroken(false);
         linen(x, 0, 3, 2);
@@ -718,7 +699,7 @@ public final class PromiseTest {
     }
 
     private static void promise18Sleeps() {
-        HostLeague x = withRooms(2, 10);
+        HostLeague x = Scenes.withRooms(2, 10);
         x.buyLinen(2, 2);
         x.book(0, 2, 0, 0);
         x.book(1, 2, 0, 0);
@@ -735,12 +716,12 @@ public final class PromiseTest {
         x.come(2);
         Check.due("18 sleeps nowhere", -1, () -> x.sleeps(2));
         for (int booking : new int[] {-1, 3, 80, Integer.MIN_VALUE, Integer.MAX_VALUE}) {
-            Check.refuses("18 booking " + booking, INDEX, () -> x.sleeps(booking));
+            Check.refuses("18 booking " + booking, Check.INDEX, () -> x.sleeps(booking));
         }
     }
 
     private static void promise19Points() {
-        HostLeague x = withRooms(5, 39);
+        HostLeague x = Scenes.withRooms(5, 39);
         x.buyLinen(2, 9);
         x.book(0, 2, 0, 0);
         x.book(9, 2, 0, 0);
@@ -756,12 +737,12 @@ public final class PromiseTest {
         x.night();
         Check.due("19 a night takes none", 2, () -> x.points(0));
         for (int guest : NO_GUESTS) {
-            Check.refuses("19 guest " + guest, INDEX, () -> x.points(guest));
+            Check.refuses("19 guest " + guest, Check.INDEX, () -> x.points(guest));
         }
     }
 
     private static void promise20Owes() {
-        HostLeague x = withRooms(2, 40);
+        HostLeague x = Scenes.withRooms(2, 40);
         x.setRooms(1, 0, 2, 70);
         x.buyLinen(0, 9);
         x.buyLinen(1, 9);
@@ -781,13 +762,13 @@ public final class PromiseTest {
         Check.due("20 seven less", 27, () -> x.owes(0, 1));
         Check.due("20 itself", 0, () -> x.owes(0, 0));
         for (int inn : NO_INNS) {
-            Check.refuses("20 inn " + inn, INDEX, () -> x.owes(inn, 0));
-            Check.refuses("20 other " + inn, INDEX, () -> x.owes(0, inn));
+            Check.refuses("20 inn " + inn, Check.INDEX, () -> x.owes(inn, 0));
+            Check.refuses("20 other " + inn, Check.INDEX, () -> x.owes(0, inn));
         }
     }
 
     private static void promise21Purse() {
-        HostLeague x = withRooms(1, 10);
+        HostLeague x = Scenes.withRooms(1, 10);
         x.setRooms(3, 0, 1, 100);
         x.buyLinen(0, 9);
         x.buyLinen(3, 9);
@@ -804,7 +785,7 @@ public final class PromiseTest {
         Check.due("9 again", 0, () -> x.settle());
         Check.due("21 as before", -90, () -> x.purse(0));
         for (int inn : NO_INNS) {
-            Check.refuses("21 inn " + inn, INDEX, () -> x.purse(inn));
+            Check.refuses("21 inn " + inn, Check.INDEX, () -> x.purse(inn));
         }
     }
 }
